@@ -1,0 +1,233 @@
+/** Promises 4 and 5: what a text may be, and the fault of one that is not so. */
+public final class TextTest {
+    public static void main(String[] args) {
+        tokens();
+        groupsAndChains();
+        steps();
+        uses();
+        kinds();
+        tooMany();
+        toldTwice();
+        leastAtOnePlace();
+        toldNowhere();
+        Desk.finish();
+    }
+
+    private static String times(int n, String part) {
+        return part.repeat(n);
+    }
+
+    /** Parts whose # is a number from 0 on. */
+    private static String numbered(int n, String part) {
+        StringBuilder all = new StringBuilder();
+        for (int i = 0; i < n; i++) {
+            all.append(part.replace("#", "" + i));
+        }
+        return all.toString();
+    }
+
+    private static void tokens() {
+        Desk.dueWell("");
+        Desk.dueWell(" \n ");
+        Desk.dueWell("kind a{}kind b{}");
+        Desk.dueWell("kind\na\n{\n}");
+        Desk.dueFault("\tkind a{}", 1, 0);
+        Desk.dueFault("kind a{}\0", 1, 8);
+        Desk.dueFault("kind a{}\u00e9", 1, 8);
+        Desk.dueFault("kind A{}", 1, 5);
+        Desk.dueFault("kind a.{}", 1, 6);
+        Desk.dueFault("kind a_{}", 1, 6);
+        Desk.dueWell("kind abcdefgh{}");
+        Desk.dueWell("kind a1234567{}");
+        Desk.dueFault("kind abcdefghi{}", 2, 13);
+        Desk.dueFault("kind 1a{}", 1, 5);
+        Desk.dueWell("mark m = least(123456789), least(-123456789), least(000), least(-0);");
+        Desk.dueFault("mark m = least(1234567890);", 1, 15);
+        Desk.dueFault("mark m = least(-1234567890);", 2, 15);
+        Desk.dueFault("mark m = least(1x);", 1, 15);
+        Desk.dueFault("mark m = least(- 1);", 2, 15);
+        Desk.dueWell("rule r = 1 -1-;");
+        Desk.dueFault("rule r = 1 1 -1a;", 1, 14);
+        Desk.dueWell("mark m = need \"" + times(30, "~") + "\";");
+        Desk.dueWell("mark m = need\"\";");
+        Desk.dueFault("mark m = need \"" + times(31, "x") + "\";", 1, 14);
+        Desk.dueFault("mark m = need \"x", 1, 14);
+        Desk.dueFault("mark m = need \"x\n\";", 1, 14);
+        Desk.dueFault("mark m = need \"\u007f\";", 1, 14);
+        Desk.dueFault("need", 2, 0);
+        Desk.dueFault(";", 2, 0);
+        Desk.dueFault("7", 2, 0);
+        Desk.dueFault("of", 2, 0);
+    }
+
+    private static void groupsAndChains() {
+        Desk.dueWell("group a; group b : a, all, a; chain c : b, a, b; chain d:all;");
+        Desk.dueFault("group", 2, 5);
+        Desk.dueFault("group  \n", 2, 8);
+        Desk.dueFault("group all;", 3, 6);
+        Desk.dueFault("group need;", 2, 6);
+        Desk.dueFault("group kind;", 2, 6);
+        Desk.dueFault("group a :;", 2, 9);
+        Desk.dueFault("group a : all,;", 2, 14);
+        Desk.dueFault("group a : all all;", 2, 14);
+        Desk.dueFault("group a", 2, 7);
+        Desk.dueFault("chain c;", 2, 7);
+        Desk.dueFault("chain c : ;", 2, 10);
+        Desk.dueFault("chain c : all", 2, 13);
+        Desk.dueFault("group a : list;", 2, 10);
+    }
+
+    private static void steps() {
+        Desk.dueWell("rule r = v;");
+        Desk.dueWell("rule r starts = v;");
+        Desk.dueWell("rule r starts 1 2 == = v;");
+        Desk.dueWell("rule r starts 1 2 = = = v a = = b = =;");
+        Desk.dueWell("rule r = v a + b - 1 * 2 / 3 % 4 < 5 > 6 & 7 | ~ 1 ==;");
+        Desk.dueFault("rule r = ;", 2, 9);
+        Desk.dueFault("rule r;", 2, 6);
+        Desk.dueFault("rule r = v", 2, 10);
+        Desk.dueFault("rule r = c;", 2, 9);
+        Desk.dueFault("rule r = v !;", 2, 11);
+        Desk.dueFault("rule r = v v = ;", 2, 15);
+        Desk.dueFault("rule r = v v = 1;", 2, 15);
+        Desk.dueFault("rule r starts v = v;", 4, 14);
+        Desk.dueFault("rule r starts 1 b = v;", 4, 16);
+        Desk.dueFault("rule r starts 1; = v;", 2, 15);
+        Desk.dueFault("rule r starts 1 2 = v;", 4, 18);
+        Desk.dueFault("rule r starts 1 == = v;", 4, 16);
+        Desk.dueFault("rule r starts ~ = v;", 4, 14);
+        Desk.dueFault("rule r = v v;", 4, 12);
+        Desk.dueFault("rule r = +;", 4, 9);
+        Desk.dueFault("rule r = v +;", 4, 11);
+        Desk.dueFault("rule r = ~;", 4, 9);
+        Desk.dueFault("rule r = v ==;", 4, 11);
+        Desk.dueWell("rule r = " + times(16, "v ") + times(15, "+") + ";");
+        Desk.dueFault("rule r = " + times(17, "v ") + times(16, "+") + ";", 4, 41);
+        Desk.dueWell("rule r = v" + times(39, "~") + ";");
+        Desk.dueFault("rule r = v" + times(40, "~") + ";", 2, 49);
+        Desk.dueWell("rule r starts 1" + times(39, "~") + " = v" + times(39, "~") + ";");
+        Desk.dueFault("rule r starts 1" + times(40, "~") + " = v;", 2, 54);
+        Desk.dueFault("rule r = v" + times(39, "~") + "==;", 2, 49);
+        Desk.dueFault("rule r = v" + times(39, "~") + "+;", 2, 49);
+    }
+
+    private static void uses() {
+        Desk.dueWell("group g; mark m = need ! @ g # 7 \"x\", go ? # -7, size(1, 2) @ all, oneof(1,2,3,x)\"\";");
+        Desk.dueWell("mark m = m(1, 2, 3, 4);");
+        Desk.dueFault("mark m = least(1, 2, 3, 4, 5);", 2, 27);
+        Desk.dueFault("mark m = least();", 2, 15);
+        Desk.dueFault("mark m = least(1,);", 2, 17);
+        Desk.dueFault("mark m = least(1;", 2, 16);
+        Desk.dueFault("mark m = least(of);", 2, 15);
+        Desk.dueFault("mark m = least(\"x\");", 2, 15);
+        Desk.dueFault("mark m = ;", 2, 9);
+        Desk.dueFault("mark m ;", 2, 7);
+        Desk.dueFault("mark m = need, ;", 2, 15);
+        Desk.dueFault("mark m = need ! ?;", 2, 16);
+        Desk.dueFault("mark m = need @ 1;", 2, 16);
+        Desk.dueFault("mark m = need @ int;", 2, 16);
+        Desk.dueFault("mark m = need # x;", 2, 16);
+        Desk.dueFault("mark m = need # 1 @ all;", 2, 18);
+        Desk.dueFault("mark m = need \"x\" # 1;", 2, 18);
+        Desk.dueFault("mark m = int;", 2, 9);
+    }
+
+    private static void kinds() {
+        Desk.dueWell("kind k { * = below(a, b); a : int; b : int = need; * = need; t : text; l : list k; k : k; }");
+        Desk.dueWell("kind k { need : int; all : text; v : l; } kind l of k { m : list k = go; }");
+        Desk.dueFault("kind k", 2, 6);
+        Desk.dueFault("kind k {", 2, 8);
+        Desk.dueFault("kind k { a : int }", 2, 17);
+        Desk.dueFault("kind k { a int; }", 2, 11);
+        Desk.dueFault("kind k { a : ; }", 2, 13);
+        Desk.dueFault("kind k { a : kind; }", 2, 13);
+        Desk.dueFault("kind k { a : list; }", 2, 17);
+        Desk.dueFault("kind k { a : list int; }", 2, 18);
+        Desk.dueFault("kind k { a : int = ; }", 2, 19);
+        Desk.dueFault("kind k { * need; }", 2, 11);
+        Desk.dueFault("kind k { * : int; }", 2, 11);
+        Desk.dueFault("kind k { int : int; }", 2, 9);
+        Desk.dueFault("kind k of { }", 2, 10);
+        Desk.dueFault("kind k { };", 2, 10);
+    }
+
+    private static void tooMany() {
+        Desk.dueWell(numbered(7, "group g#;"));
+        Desk.dueFault(numbered(8, "group g#;"), 2, 63);
+        Desk.dueWell(numbered(6, "chain c#:all;"));
+        Desk.dueFault(numbered(7, "chain c#:all;"), 2, 78);
+        Desk.dueWell("group g : all" + times(7, ",all") + ";");
+        Desk.dueFault("group g : all" + times(8, ",all") + ";", 2, 42);
+        Desk.dueWell("chain c : all" + times(7, ",all") + ";");
+        Desk.dueFault("chain c : all" + times(8, ",all") + ";", 2, 42);
+        Desk.dueWell(numbered(16, "rule r#=v;"));
+        Desk.dueFault(numbered(16, "rule r#=v;") + "rule", 2, 166);
+        Desk.dueWell(numbered(16, "mark m#=go;"));
+        Desk.dueFault(numbered(16, "mark m#=go;") + "mark", 2, 182);
+        Desk.dueWell(numbered(16, "kind k#{}"));
+        Desk.dueFault(numbered(16, "kind k#{}") + "kind", 2, 150);
+        String all = numbered(7, "group g#;") + numbered(6, "chain c#:all;") + numbered(16, "rule r#=v;")
+            + numbered(16, "mark m#=go;") + numbered(16, "kind k#{}");
+        Desk.dueWell(all);
+        Desk.dueWell("kind k {" + numbered(12, "m#:int;") + "}");
+        Desk.dueFault("kind k {" + numbered(13, "m#:int;") + "}", 2, 94);
+        String above = "kind k {" + numbered(12, "m#:int;") + "}";
+        Desk.dueWell(above + "kind l of k { }");
+        Desk.dueFault(above + "kind l of k { x : int; }", 2, above.length() + 14);
+        Desk.dueWell("kind k { a : int = need" + times(7, ",need") + "; }");
+        Desk.dueFault("kind k { a : int = need" + times(8, ",need") + "; }", 2, 59);
+        Desk.dueWell("mark m = need" + times(7, ",need") + ";");
+        Desk.dueFault("mark m = need" + times(8, ",need") + ";", 2, 49);
+        Desk.dueWell("kind k { " + times(8, "* = need;") + " }");
+        Desk.dueFault("kind k { " + times(9, "* = need;") + " }", 2, 85);
+    }
+
+    private static void toldTwice() {
+        Desk.dueFault("group a; chain a : all;", 3, 15);
+        Desk.dueFault("rule a = v; mark a = go;", 3, 17);
+        Desk.dueFault("kind a { } kind a { }", 3, 16);
+        Desk.dueFault("mark all = go;", 3, 5);
+        Desk.dueFault("kind k { a : int; a : text; }", 3, 18);
+        Desk.dueFault("kind k { a : int; } kind l of k { b : int; a : text; }", 3, 43);
+        Desk.dueFault("kind k { a : int; } kind l of k { } kind m of l { a : int; }", 3, 50);
+        Desk.dueWell("kind k { a : int; } kind l { a : int; }");
+        Desk.dueFault("kind total { }", 2, 5);
+        // The first by its place, though one of a lesser number stands behind it.
+        Desk.dueFault("kind k { a : int; a : text; .", 3, 18);
+        // A kind that is not told ahead has no members yet, so that no other fault is ahead of fault 5.
+        Desk.dueFault("kind l of k { a : int; } kind k { a : int; }", 5, 10);
+    }
+
+    private static void leastAtOnePlace() {
+        String full = "kind k {" + numbered(12, "m#:int;") + "}";
+        String thirteen = full.substring(0, full.length() - 1) + "m1:int;}";
+        Desk.dueFault(thirteen, 2, full.length() - 1);
+        Desk.dueFault("rule r = v" + times(39, "~") + ".", 1, 49);
+        Desk.dueFault("mark m = least(1,2,3,4,.", 1, 23);
+    }
+
+    private static void toldNowhere() {
+        Desk.dueFault("group a : b; group b;", 5, 10);
+        Desk.dueFault("group a : a;", 5, 10);
+        Desk.dueFault("group a : all, x;", 5, 15);
+        Desk.dueFault("chain c : c;", 5, 10);
+        Desk.dueWell("chain c : g; group g;");
+        Desk.dueFault("kind a of a { }", 5, 10);
+        Desk.dueFault("kind a of b { } kind b { }", 5, 10);
+        Desk.dueFault("group g; kind a of g { }", 5, 19);
+        Desk.dueWell("kind b { } kind a of b { }");
+        Desk.dueFault("kind a { m : b; }", 5, 13);
+        Desk.dueFault("kind a { m : list all; }", 5, 18);
+        Desk.dueWell("kind a { m : b; l : list c; } kind b { } kind c { }");
+        Desk.dueFault("kind a { m : int = x; }", 5, 19);
+        Desk.dueFault("kind a { m : int = a; }", 5, 19);
+        Desk.dueWell("kind a { m : int = x, y; } rule x = v; mark y = x;");
+        Desk.dueFault("mark m = need @ m;", 5, 16);
+        Desk.dueWell("mark m = need @ g; group g;");
+        Desk.dueWell("mark m = below(x, y);");
+        // The first by its place; and none of these if there is another fault.
+        Desk.dueFault("mark m = x @ y; kind k of z { }", 5, 9);
+        Desk.dueFault("mark m = x; kind k { } kind k { }", 3, 28);
+        Desk.dueFault("mark m = x; kind", 2, 16);
+    }
+}
