@@ -877,9 +877,12 @@ public final class CustomsDesk {
             }
             if (sort == '@') {
                 advance();
-                use.group = sort == NAME ? readReference(GROUP_NAME) : NONE;
+                if (sort != NAME) {
+                    return wrong(2);
+                }
+                use.group = readReference(GROUP_NAME);
                 if (use.group == NONE) {
-                    return fault != 0 ? false : wrong(2);
+                    return false;
                 }
                 advance();
             }
@@ -1151,31 +1154,33 @@ public final class CustomsDesk {
                     }
                     pile[depth - 1] = pile[depth - 1] == 0 ? 1 : 0;
                 } else {
-                    if (depth < 2 || ((op == '/' || op == '%') && pile[depth - 1] == 0)) {
+                    if (depth < 2) {
                         return false;
                     }
                     depth--;
-                    pile[depth - 1] = join(op, pile[depth - 1], pile[depth]);
+                    int y = pile[depth];
+                    if (y == 0 && (op == '/' || op == '%')) {
+                        return false;
+                    }
+                    int x = pile[depth - 1];
+                    switch (op) {
+                        case '+': x = x + y; break;
+                        case '-': x = x - y; break;
+                        case '*': x = x * y; break;
+                        case '/': x = x / y; break;
+                        case '%': x = x % y; break;
+                        case '<': x = x < y ? 1 : 0; break;
+                        case '>': x = x > y ? 1 : 0; break;
+                        case '=': x = x == y ? 1 : 0; break;
+                        case '&': x = x & y; break;
+                        default: x = x | y; break;
+                    }
+                    pile[depth - 1] = x;
                 }
             }
             // Starts without a step are well.
             left = depth == 0 ? 1 : pile[depth - 1];
             return true;
-        }
-
-        private static int join(int op, int x, int y) {
-            switch (op) {
-                case '+': return x + y;
-                case '-': return x - y;
-                case '*': return x * y;
-                case '/': return y == 0 ? 0 : x / y;
-                case '%': return y == 0 ? 0 : x % y;
-                case '<': return x < y ? 1 : 0;
-                case '>': return x > y ? 1 : 0;
-                case '=': return x == y ? 1 : 0;
-                case '&': return x & y;
-                default: return x | y;
-            }
         }
     }
 
@@ -1247,12 +1252,15 @@ public final class CustomsDesk {
 
         /** The nearest value that the rule lets, of two the lower; of least and most it is their one arg. */
         int nearest(int v) {
-            int best = arg(0);
+            if (args == null || argCount < 1 || argCount > args.length) {
+                return 0;
+            }
+            int best = args[0];
             for (int i = 1; i < argCount; i++) {
-                long far = Math.abs((long) arg(i) - v);
+                long far = Math.abs((long) args[i] - v);
                 long bestFar = Math.abs((long) best - v);
-                if (far < bestFar || (far == bestFar && arg(i) < best)) {
-                    best = arg(i);
+                if (far < bestFar || (far == bestFar && args[i] < best)) {
+                    best = args[i];
                 }
             }
             return best;
@@ -1375,9 +1383,11 @@ public final class CustomsDesk {
             findReach();
             for (int k = 0; k < book.kinds.size(); k++) {
                 kind = book.kinds.get(k);
-                openSpot(kind.star, NONE);
+                turnTo(kind.star, NONE);
+                openUses(spot.uses, 0);
                 for (int m = kind.firstOwn; m < kind.members.size(); m++) {
-                    openSpot(kind.members.get(m), m);
+                    turnTo(kind.members.get(m), m);
+                    openUses(spot.uses, 0);
                 }
             }
         }
@@ -1411,15 +1421,11 @@ public final class CustomsDesk {
             return mark < 0 || mark >= MAX_MARKS || (reach[mark] & (1 << mark)) != 0;
         }
 
-        private void openSpot(Spot place, int number) {
+        private void turnTo(Spot place, int number) {
             spot = place;
             member = number;
             opened = 0;
-            clearRow(outer[0]);
-            openUses(spot.uses, 0);
-        }
-
-        private static void clearRow(int[] row) {
+            int[] row = outer[0];
             Arrays.fill(row, NONE);
             row[PAID] = 0;
             row[PAYLOAD] = 0;
@@ -1632,10 +1638,13 @@ public final class CustomsDesk {
 
         /** What {v} shows of a member. */
         int shown(int member) {
-            if (typeOf(member) == TYPE_PAPER) {
+            if (member < 0 || member >= values.length) {
+                return 0;
+            }
+            if (kind.members.get(member).type == TYPE_PAPER) {
                 return there[member] ? 1 : 0;
             }
-            return valueOf(member);
+            return values[member];
         }
 
         /** Notes a proposal, and tells whether it is the first one of a check for this member. */
@@ -1865,7 +1874,7 @@ public final class CustomsDesk {
 
         private long sum(Paper paper, int list, int member) {
             long sum = 0;
-            int count = paper.countTargets(list);
+            int count = Math.min(paper.valueOf(list), MAX_ITEMS);
             for (int i = 0; i < count; i++) {
                 int other = paper.target(list, i);
                 if (other >= 0 && other < papers.size()) {

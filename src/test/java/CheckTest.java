@@ -18,6 +18,7 @@ public final class CheckTest {
         textsAreAsFound();
         heldAtMost();
         foundsKept();
+        lastAsking();
         askingsEnd();
         Desk.finish();
     }
@@ -366,6 +367,21 @@ public final class CheckTest {
         desk.setInt(14, 2, 0, false);
         Desk.due("check", desk.check(0, 0), 15 * 35 + 1);
         Desk.due("an error that is not kept ends the chain, too", desk.groups(), 1);
+    }
+
+    private static void lastAsking() {
+        Desk made = Desk.of("chain c : all, all; mark a = need?, need?, need?, need?, need?, need?, need?, need?;"
+            + " kind k { x : int = a, a, a, a, a; y : int = a, a, a; l : list k = go; }");
+        CustomsDesk desk = made.desk;
+        for (int i = 0; i < 79; i++) {
+            desk.paper(0);
+            if (i > 0) {
+                desk.item((i - 1) / 20, 2, i);
+            }
+        }
+        // 78 papers and eight askings of the 79th.
+        Desk.due("check", desk.check(0, 0), 5000);
+        Desk.due("groups", desk.groups(), 1);
     }
 
     private static void askingsEnd() {

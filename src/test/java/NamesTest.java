@@ -4,6 +4,7 @@ public final class NamesTest {
 
     public static void main(String[] args) {
         names();
+        allNames();
         kindsAndMembers();
         misusesOfTypes();
         misusesOfArgs();
@@ -35,6 +36,25 @@ public final class NamesTest {
         Desk.due("a space more", desk.named(Desk.name("k ")), NONE);
         Desk.due("a shorter one", desk.named(Desk.name("abcdefg")), NONE);
         Desk.due("negative", desk.named(-1), NONE);
+    }
+
+    private static void allNames() {
+        String[] parts = {"group g#;", "chain c#:g6;", "rule r#=v;", "mark m#=go;", "kind k#{}"};
+        int[] counts = {7, 6, 16, 16, 16};
+        StringBuilder text = new StringBuilder();
+        for (int sort = 0; sort < 5; sort++) {
+            for (int i = 0; i < counts[sort]; i++) {
+                text.append(parts[sort].replace("#", "" + i));
+            }
+        }
+        CustomsDesk desk = Desk.of(text.toString()).desk;
+        for (int sort = 0; sort < 5; sort++) {
+            for (int i = 0; i < counts[sort]; i++) {
+                int want = (sort + 1) * 100 + i + (sort == 0 ? 1 : 0);
+                Desk.due("named", desk.named(Desk.name("gcrmk".charAt(sort) + "" + i)), want);
+            }
+        }
+        Desk.dueFault(text + "kind", 2, text.length());
     }
 
     private static void kindsAndMembers() {
@@ -96,7 +116,9 @@ public final class NamesTest {
     private static void misusesOnStar() {
         Desk made = Desk.of("rule r = v; kind k { i : int; t : text; * = below(i, j), need, below(i, t), r; j : int; }"
             + " kind s of k { x : list k; y : list s; z : int = size(1, 2); p : k; * = total(x, i, z), total(y, z, i),"
-            + " total(x, z, z), total(p, i, z), total(x, i, t), total(x, i), below(i, 4), go; }");
+            + " total(x, z, z), total(p, i, z), total(x, i, t), total(x, i), below(i, j, i), go; }"
+            + " kind n { a : int; b : int; l : list n; * = below(a, 4), below(a), below, total(l, a, b, b), total(4, a, b),"
+            + " below(b, a), total(l, b, b); }");
         made.dueMisuse(0, 0, NONE, 2, 1);
         made.dueMisuse(1, 0, NONE, 3, 7);
         made.dueMisuse(2, 0, NONE, 2, 100);
@@ -108,7 +130,12 @@ public final class NamesTest {
         made.dueMisuse(8, 1, NONE, 2, 2);
         // The member's number has those above ahead of it.
         made.dueMisuse(9, 1, 5, 2, 5);
-        made.dueMisuse(10, NONE);
+        for (int k = 10; k < 13; k++) {
+            made.dueMisuse(k, 2, NONE, 3, 7);
+        }
+        made.dueMisuse(13, 2, NONE, 3, 8);
+        made.dueMisuse(14, 2, NONE, 3, 8);
+        made.dueMisuse(15, NONE);
     }
 
     private static void rings() {

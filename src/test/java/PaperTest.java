@@ -130,6 +130,7 @@ public final class PaperTest {
         desk.paper(2);
         desk.setInt(0, 0, NONE, true);
         Desk.due("a value like NONE", desk.value(0, 0, 1), NONE);
+        desk.setInt(0, 0, 5, true);
         Desk.due("what 2", desk.value(0, 0, 2), NONE);
         Desk.due("what -1", desk.value(0, 0, -1), NONE);
         Desk.due("member 6", desk.value(0, 6, 0), NONE);

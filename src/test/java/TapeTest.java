@@ -60,6 +60,8 @@ public final class TapeTest {
         Desk.due("feed to 2999", desk.feed(0x20202020, 0x20202020, 0x20202020, 0x20202020, 0x20202020), 2999);
         Desk.due("feed over 3000", desk.feed(1, 1, 1, 1, 1), NONE);
         Desk.due("end(3000)", desk.end(3000), NONE);
+        desk.end(2981);
+        Desk.due("feed to 3001", desk.feed(1, 1, 1, 1, 1), NONE);
         Desk.due("end(2980)", desk.end(2980), 2980);
         Desk.due("feed to 3000", desk.feed(0x20202020, 0x20202020, 0x20202020, 0x20202020, 0x2020206b), 3000);
         Desk.due("feed over 3000", desk.feed(1, 1, 1, 1, 1), NONE);
