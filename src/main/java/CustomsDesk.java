@@ -718,10 +718,8 @@ public final class CustomsDesk {
         }
 
         private boolean endSteps(boolean starts, int depth) {
-            if (stepCount == 0) {
-                return starts || wrong(2);
-            }
-            return depth == 1 || wrong(4);
+            // Only starts may have no step: of a rule without one nothing comes out.
+            return (starts && stepCount == 0) || depth == 1 || wrong(4);
         }
 
         private boolean twoEquals() {

@@ -4,6 +4,7 @@ public final class TextTest {
         tokens();
         groupsAndChains();
         steps();
+        noStep();
         uses();
         kinds();
         tooMany();
@@ -83,7 +84,6 @@ public final class TextTest {
         Desk.dueWell("rule r starts 1 2 == = v;");
         Desk.dueWell("rule r starts 1 2 = = = v a = = b = =;");
         Desk.dueWell("rule r = v a + b - 1 * 2 / 3 % 4 < 5 > 6 & 7 | ~ 1 ==;");
-        Desk.dueFault("rule r = ;", 2, 9);
         Desk.dueFault("rule r;", 2, 6);
         Desk.dueFault("rule r = v", 2, 10);
         Desk.dueFault("rule r = c;", 2, 9);
@@ -109,6 +109,27 @@ public final class TextTest {
         Desk.dueFault("rule r starts 1" + times(40, "~") + " = v;", 2, 54);
         Desk.dueFault("rule r = v" + times(39, "~") + "==;", 2, 49);
         Desk.dueFault("rule r = v" + times(39, "~") + "+;", 2, 49);
+    }
+
+    /** The ; may stand behind =, but steps that leave nothing do not come out. */
+    private static void noStep() {
+        Desk.dueFault("rule r = ;", 4, 9);
+        Desk.dueFault("rule r=;", 4, 7);
+        Desk.dueFault("rule r = \n ; kind k { }", 4, 11);
+        Desk.dueFault("rule r starts = ;", 4, 16);
+        Desk.dueFault("rule r starts 1 = ;", 4, 18);
+        Desk.dueFault("rule q = v; rule r = ;", 4, 21);
+        Desk.dueFault("rule r = ; rule r = v;", 4, 9);
+        Desk.dueFault("rule r =", 2, 8);
+        Desk.dueFault("rule r = , ;", 2, 9);
+        Desk.dueFault("rule r = $;", 1, 9);
+        Desk.dueFault("rule r starts ;", 2, 14);
+        Desk desk = Desk.of("kind k { x : int; }");
+        Desk.due("a paper ahead of the fault", desk.desk.paper(0), 0);
+        Desk.due("take of a rule without a step", desk.take("rule r = ;"), CustomsDesk.NONE);
+        Desk.due("the kind ahead of the fault stays", desk.desk.named(Desk.name("k")), 500);
+        Desk.due("the rule is not there", desk.desk.named(Desk.name("r")), CustomsDesk.NONE);
+        Desk.due("the paper ahead of the fault stays", desk.desk.setInt(0, 0, 7, true), true);
     }
 
     private static void uses() {
