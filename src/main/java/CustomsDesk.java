@@ -588,10 +588,11 @@ public final class CustomsDesk {
                 return wrong(2);
             }
             advance();
-            if (sort != NAME || Book.builtIn(value) != 0) {
+            if (sort != NAME) {
                 return wrong(2);
             }
-            if (book.find(value) != NONE) {
+            // The built-in rules have their names ahead of every text.
+            if (Book.builtIn(value) != 0 || book.find(value) != NONE) {
                 return wrong(3);
             }
             book.tell(value, sortOfName * 100 + number);

@@ -5,6 +5,7 @@ public final class TextTest {
         groupsAndChains();
         steps();
         noStep();
+        builtInNames();
         uses();
         kinds();
         tooMany();
@@ -66,7 +67,7 @@ public final class TextTest {
         Desk.dueFault("group", 2, 5);
         Desk.dueFault("group  \n", 2, 8);
         Desk.dueFault("group all;", 3, 6);
-        Desk.dueFault("group need;", 2, 6);
+        Desk.dueFault("group need;", 3, 6);
         Desk.dueFault("group kind;", 2, 6);
         Desk.dueFault("group a :;", 2, 9);
         Desk.dueFault("group a : all,;", 2, 14);
@@ -130,6 +131,40 @@ public final class TextTest {
         Desk.due("the kind ahead of the fault stays", desk.desk.named(Desk.name("k")), 500);
         Desk.due("the rule is not there", desk.desk.named(Desk.name("r")), CustomsDesk.NONE);
         Desk.due("the paper ahead of the fault stays", desk.desk.setInt(0, 0, 7, true), true);
+    }
+
+    /** The built-in rules have their names ahead of every text; only members may have them, too. */
+    private static void builtInNames() {
+        String[] names = {"need", "go", "least", "most", "size", "oneof", "below", "total"};
+        for (String name : names) {
+            Desk.dueFault("group " + name + ";", 3, 6);
+            Desk.dueFault("group " + name + " : all;", 3, 6);
+            Desk.dueFault("chain " + name + " : all;", 3, 6);
+            Desk.dueFault("rule " + name + " = v;", 3, 5);
+            Desk.dueFault("rule " + name + " starts 1 = v;", 3, 5);
+            Desk.dueFault("mark " + name + " = need;", 3, 5);
+            Desk.dueFault("kind " + name + " { }", 3, 5);
+            Desk.dueFault("kind k { } kind " + name + " of k { }", 3, 16);
+            Desk.dueWell("kind k { " + name + " : int = least(1); }");
+            Desk.dueWell("kind " + name + "s { } group x" + name + ";");
+            Desk.dueFault("kind k { x : " + name + "; }", 5, 13);
+            Desk.dueFault("kind k { x : list " + name + "; }", 5, 18);
+            Desk.dueFault("kind k of " + name + " { }", 5, 10);
+            Desk.dueFault("chain c : " + name + ";", 5, 10);
+            Desk.dueFault("mark m = need @ " + name + ";", 5, 16);
+        }
+        Desk.dueFault("rule need = \0", 3, 5);
+        Desk.dueFault("rule need", 3, 5);
+        Desk.dueFault("rule \n go go", 3, 7);
+        Desk.dueFault("kind k { x : nix; } rule size = v;", 3, 25);
+        Desk.dueFault("rule r = ; rule need = v;", 4, 9);
+        Desk.dueFault("rule 7 = v; rule need = v;", 2, 5);
+        Desk.dueFault("rule starts = v;", 2, 5);
+        Desk.dueFault(numbered(7, "group g#;") + "group need;", 2, 63);
+        Desk desk = Desk.of("kind k { }");
+        Desk.due("take of a built-in name", desk.take("kind need { }"), CustomsDesk.NONE);
+        Desk.due("the kind ahead of it stays", desk.desk.named(Desk.name("k")), 500);
+        Desk.due("a built-in name is none of a text's", desk.desk.named(Desk.name("need")), CustomsDesk.NONE);
     }
 
     private static void uses() {
@@ -212,7 +247,7 @@ public final class TextTest {
         Desk.dueFault("kind k { a : int; } kind l of k { b : int; a : text; }", 3, 43);
         Desk.dueFault("kind k { a : int; } kind l of k { } kind m of l { a : int; }", 3, 50);
         Desk.dueWell("kind k { a : int; } kind l { a : int; }");
-        Desk.dueFault("kind total { }", 2, 5);
+        Desk.dueFault("kind total { }", 3, 5);
         // The first by its place, though one of a lesser number stands behind it.
         Desk.dueFault("kind k { a : int; a : text; .", 3, 18);
         // A kind that is not told ahead has no members yet, so that no other fault is ahead of fault 5.
