@@ -8,8 +8,8 @@ public final class AnyCallTest {
     private static long state = 20261116;
 
     public static void main(String[] args) {
-        anyArguments(new CustomsDesk());
-        anyArguments(filled().desk);
+        anyArguments(false);
+        anyArguments(true);
         anyTapes();
         Desk.finish();
     }
@@ -26,14 +26,18 @@ public final class AnyCallTest {
         return made;
     }
 
-    private static void anyArguments(CustomsDesk desk) {
+    /** A new desk for each two numbers: what it answers behind its 512th call is free. */
+    private static void anyArguments(boolean filled) {
         for (int a : NUMBERS) {
-            one(desk, a);
             for (int b : NUMBERS) {
+                CustomsDesk desk = filled ? filled().desk : new CustomsDesk();
+                one(desk, a);
+                one(desk, b);
                 two(desk, a, b);
                 for (int c : NUMBERS) {
                     three(desk, a, b, c);
                 }
+                two(desk, b, a);
             }
         }
     }
@@ -78,7 +82,6 @@ public final class AnyCallTest {
 
     /** Texts with bytes taken away, put in and changed: each has a fault at a place within it, or none. */
     private static void anyTapes() {
-        Desk made = new Desk();
         String bytes = TEXT + ";:,(){}=!?@#+-*/%<>&|~\"0123456789abv \n\t\u00ff\0";
         for (int n = 0; n < 3000; n++) {
             StringBuilder text = new StringBuilder(TEXT);
@@ -91,6 +94,7 @@ public final class AnyCallTest {
                     text.insert(at, bytes, from, Math.min(bytes.length(), from + 1 + next(6)));
                 }
             }
+            Desk made = new Desk();
             int kinds = made.take(text.toString());
             int fault = made.desk.fault(0);
             int place = made.desk.fault(1);

@@ -2,8 +2,16 @@ import java.nio.charset.StandardCharsets;
 
 /** What the tests share: a desk that is fed by Strings, and the counting of wrong answers. */
 final class Desk {
-    final CustomsDesk desk = new CustomsDesk();
+    final CustomsDesk desk;
     private static int wrong = 0;
+
+    Desk() {
+        this(new CustomsDesk());
+    }
+
+    Desk(CustomsDesk desk) {
+        this.desk = desk;
+    }
 
     /** A desk that has taken a text without a fault. */
     static Desk of(String text) {
@@ -39,6 +47,15 @@ final class Desk {
 
     static void dueWell(String text) {
         dueFault(text, 0, 0);
+    }
+
+    /** Parts whose # is a number from 0 on. */
+    static String numbered(int n, String part) {
+        StringBuilder all = new StringBuilder();
+        for (int i = 0; i < n; i++) {
+            all.append(part.replace("#", "" + i));
+        }
+        return all.toString();
     }
 
     static long name(String letters) {

@@ -15,19 +15,6 @@ public final class TextTest {
         Desk.finish();
     }
 
-    private static String times(int n, String part) {
-        return part.repeat(n);
-    }
-
-    /** Parts whose # is a number from 0 on. */
-    private static String numbered(int n, String part) {
-        StringBuilder all = new StringBuilder();
-        for (int i = 0; i < n; i++) {
-            all.append(part.replace("#", "" + i));
-        }
-        return all.toString();
-    }
-
     private static void tokens() {
         Desk.dueWell("");
         Desk.dueWell(" \n ");
@@ -50,9 +37,9 @@ public final class TextTest {
         Desk.dueFault("mark m = least(- 1);", 2, 15);
         Desk.dueWell("rule r = 1 -1-;");
         Desk.dueFault("rule r = 1 1 -1a;", 1, 14);
-        Desk.dueWell("mark m = need \"" + times(30, "~") + "\";");
+        Desk.dueWell("mark m = need \"" + "~".repeat(30) + "\";");
         Desk.dueWell("mark m = need\"\";");
-        Desk.dueFault("mark m = need \"" + times(31, "x") + "\";", 1, 14);
+        Desk.dueFault("mark m = need \"" + "x".repeat(31) + "\";", 1, 14);
         Desk.dueFault("mark m = need \"x", 1, 14);
         Desk.dueFault("mark m = need \"x\n\";", 1, 14);
         Desk.dueFault("mark m = need \"\u007f\";", 1, 14);
@@ -102,14 +89,14 @@ public final class TextTest {
         Desk.dueFault("rule r = v +;", 4, 11);
         Desk.dueFault("rule r = ~;", 4, 9);
         Desk.dueFault("rule r = v ==;", 4, 11);
-        Desk.dueWell("rule r = " + times(16, "v ") + times(15, "+") + ";");
-        Desk.dueFault("rule r = " + times(17, "v ") + times(16, "+") + ";", 4, 41);
-        Desk.dueWell("rule r = v" + times(39, "~") + ";");
-        Desk.dueFault("rule r = v" + times(40, "~") + ";", 2, 49);
-        Desk.dueWell("rule r starts 1" + times(39, "~") + " = v" + times(39, "~") + ";");
-        Desk.dueFault("rule r starts 1" + times(40, "~") + " = v;", 2, 54);
-        Desk.dueFault("rule r = v" + times(39, "~") + "==;", 2, 49);
-        Desk.dueFault("rule r = v" + times(39, "~") + "+;", 2, 49);
+        Desk.dueWell("rule r = " + "v ".repeat(16) + "+".repeat(15) + ";");
+        Desk.dueFault("rule r = " + "v ".repeat(17) + "+".repeat(16) + ";", 4, 41);
+        Desk.dueWell("rule r = v" + "~".repeat(39) + ";");
+        Desk.dueFault("rule r = v" + "~".repeat(40) + ";", 2, 49);
+        Desk.dueWell("rule r starts 1" + "~".repeat(39) + " = v" + "~".repeat(39) + ";");
+        Desk.dueFault("rule r starts 1" + "~".repeat(40) + " = v;", 2, 54);
+        Desk.dueFault("rule r = v" + "~".repeat(39) + "==;", 2, 49);
+        Desk.dueFault("rule r = v" + "~".repeat(39) + "+;", 2, 49);
     }
 
     /** The ; may stand behind =, but steps that leave nothing do not come out. */
@@ -160,7 +147,7 @@ public final class TextTest {
         Desk.dueFault("rule r = ; rule need = v;", 4, 9);
         Desk.dueFault("rule 7 = v; rule need = v;", 2, 5);
         Desk.dueFault("rule starts = v;", 2, 5);
-        Desk.dueFault(numbered(7, "group g#;") + "group need;", 2, 63);
+        Desk.dueFault(Desk.numbered(7, "group g#;") + "group need;", 2, 63);
         Desk desk = Desk.of("kind k { }");
         Desk.due("take of a built-in name", desk.take("kind need { }"), CustomsDesk.NONE);
         Desk.due("the kind ahead of it stays", desk.desk.named(Desk.name("k")), 500);
@@ -208,34 +195,34 @@ public final class TextTest {
     }
 
     private static void tooMany() {
-        Desk.dueWell(numbered(7, "group g#;"));
-        Desk.dueFault(numbered(8, "group g#;"), 2, 63);
-        Desk.dueWell(numbered(6, "chain c#:all;"));
-        Desk.dueFault(numbered(7, "chain c#:all;"), 2, 78);
-        Desk.dueWell("group g : all" + times(7, ",all") + ";");
-        Desk.dueFault("group g : all" + times(8, ",all") + ";", 2, 42);
-        Desk.dueWell("chain c : all" + times(7, ",all") + ";");
-        Desk.dueFault("chain c : all" + times(8, ",all") + ";", 2, 42);
-        Desk.dueWell(numbered(16, "rule r#=v;"));
-        Desk.dueFault(numbered(16, "rule r#=v;") + "rule", 2, 166);
-        Desk.dueWell(numbered(16, "mark m#=go;"));
-        Desk.dueFault(numbered(16, "mark m#=go;") + "mark", 2, 182);
-        Desk.dueWell(numbered(16, "kind k#{}"));
-        Desk.dueFault(numbered(16, "kind k#{}") + "kind", 2, 150);
-        String all = numbered(7, "group g#;") + numbered(6, "chain c#:all;") + numbered(16, "rule r#=v;")
-            + numbered(16, "mark m#=go;") + numbered(16, "kind k#{}");
+        Desk.dueWell(Desk.numbered(7, "group g#;"));
+        Desk.dueFault(Desk.numbered(8, "group g#;"), 2, 63);
+        Desk.dueWell(Desk.numbered(6, "chain c#:all;"));
+        Desk.dueFault(Desk.numbered(7, "chain c#:all;"), 2, 78);
+        Desk.dueWell("group g : all" + ",all".repeat(7) + ";");
+        Desk.dueFault("group g : all" + ",all".repeat(8) + ";", 2, 42);
+        Desk.dueWell("chain c : all" + ",all".repeat(7) + ";");
+        Desk.dueFault("chain c : all" + ",all".repeat(8) + ";", 2, 42);
+        Desk.dueWell(Desk.numbered(16, "rule r#=v;"));
+        Desk.dueFault(Desk.numbered(16, "rule r#=v;") + "rule", 2, 166);
+        Desk.dueWell(Desk.numbered(16, "mark m#=go;"));
+        Desk.dueFault(Desk.numbered(16, "mark m#=go;") + "mark", 2, 182);
+        Desk.dueWell(Desk.numbered(16, "kind k#{}"));
+        Desk.dueFault(Desk.numbered(16, "kind k#{}") + "kind", 2, 150);
+        String all = Desk.numbered(7, "group g#;") + Desk.numbered(6, "chain c#:all;") + Desk.numbered(16, "rule r#=v;")
+            + Desk.numbered(16, "mark m#=go;") + Desk.numbered(16, "kind k#{}");
         Desk.dueWell(all);
-        Desk.dueWell("kind k {" + numbered(12, "m#:int;") + "}");
-        Desk.dueFault("kind k {" + numbered(13, "m#:int;") + "}", 2, 94);
-        String above = "kind k {" + numbered(12, "m#:int;") + "}";
+        Desk.dueWell("kind k {" + Desk.numbered(12, "m#:int;") + "}");
+        Desk.dueFault("kind k {" + Desk.numbered(13, "m#:int;") + "}", 2, 94);
+        String above = "kind k {" + Desk.numbered(12, "m#:int;") + "}";
         Desk.dueWell(above + "kind l of k { }");
         Desk.dueFault(above + "kind l of k { x : int; }", 2, above.length() + 14);
-        Desk.dueWell("kind k { a : int = need" + times(7, ",need") + "; }");
-        Desk.dueFault("kind k { a : int = need" + times(8, ",need") + "; }", 2, 59);
-        Desk.dueWell("mark m = need" + times(7, ",need") + ";");
-        Desk.dueFault("mark m = need" + times(8, ",need") + ";", 2, 49);
-        Desk.dueWell("kind k { " + times(8, "* = need;") + " }");
-        Desk.dueFault("kind k { " + times(9, "* = need;") + " }", 2, 85);
+        Desk.dueWell("kind k { a : int = need" + ",need".repeat(7) + "; }");
+        Desk.dueFault("kind k { a : int = need" + ",need".repeat(8) + "; }", 2, 59);
+        Desk.dueWell("mark m = need" + ",need".repeat(7) + ";");
+        Desk.dueFault("mark m = need" + ",need".repeat(8) + ";", 2, 49);
+        Desk.dueWell("kind k { " + "* = need;".repeat(8) + " }");
+        Desk.dueFault("kind k { " + "* = need;".repeat(9) + " }", 2, 85);
     }
 
     private static void toldTwice() {
@@ -255,10 +242,10 @@ public final class TextTest {
     }
 
     private static void leastAtOnePlace() {
-        String full = "kind k {" + numbered(12, "m#:int;") + "}";
+        String full = "kind k {" + Desk.numbered(12, "m#:int;") + "}";
         String thirteen = full.substring(0, full.length() - 1) + "m1:int;}";
         Desk.dueFault(thirteen, 2, full.length() - 1);
-        Desk.dueFault("rule r = v" + times(39, "~") + ".", 1, 49);
+        Desk.dueFault("rule r = v" + "~".repeat(39) + ".", 1, 49);
         Desk.dueFault("mark m = least(1,2,3,4,.", 1, 23);
     }
 
