@@ -17,6 +17,7 @@ public final class CheckEdgeTest {
         totalsAsLongs();
         totalOfItself();
         emptyPapersAndChains();
+        takenInGroups();
         eightGroupsInARow();
         groupWithAnErrorIsGoneThrough();
         onlyErrorsEndAChain();
@@ -258,6 +259,25 @@ public final class CheckEdgeTest {
         Desk.due("no found", made.desk.found(0, 0), NONE);
         Desk.due("correct", made.desk.correct(), 0);
         Desk.due("no chain", made.desk.check(0, 1), NONE);
+    }
+
+    /** "a use is of a group if its group is that one, or one that it takes in, at any depth". */
+    private static void takenInGroups() {
+        Desk made = Desk.of("group a : all; group b; group d : a, b; group e; group f : d; group h : e, e; chain ca : all;"
+            + " chain cb : a; chain cc : b; chain cd : d; chain ce : e; chain cf : f; kind k { x : int = need? # 1,"
+            + " need? @ a # 2, need? @ b # 3, need? @ d # 4, need? @ e # 5, need? @ f # 6, need? @ h # 7; }");
+        made.desk.paper(0);
+        int[][] payloads = {{1}, {1, 2}, {3}, {1, 2, 3, 4}, {5}, {1, 2, 3, 4, 6}};
+        for (int chain = 0; chain < 6; chain++) {
+            Desk.due("by chain " + chain, made.desk.check(0, chain), payloads[chain].length);
+            for (int k = 0; k < payloads[chain].length; k++) {
+                Desk.due("payload", made.desk.found(k, 2), payloads[chain][k]);
+            }
+        }
+        // A chain's row ahead of a group is none of the group's.
+        Desk other = Desk.of("group a; chain c : a, all; group b; chain d : b; kind k { x : int = need, need @ a; }");
+        other.desk.paper(0);
+        Desk.due("by a group that takes in none", other.desk.check(0, 1), 0);
     }
 
     /** "How many groups the latest check went through; NONE without one." */
@@ -582,7 +602,7 @@ public final class CheckEdgeTest {
 
     /** A desk with papers, each of 100 ASKINGS; the last one that is met leads back to the first. */
     private static Desk withAskings(int papers, String first) {
-        Desk made = Desk.of("group g; chain c : all, all, g;" + EIGHT + "mark f = need?, need?, need?, need?;"
+        Desk made = Desk.of("group g; chain c : all, all, g; chain d : g;" + EIGHT + "mark f = need?, need?, need?, need?;"
             + " kind k { l : list k = go; x : int = n, n, n, n, n; y : int = n, n, n, n, n; z : int = n, n, f; p : k = go;"
             + " w : int = need! @ g; } kind i { l : list k = go; x : int = " + first + "; }");
         made.desk.paper(1);
@@ -616,6 +636,9 @@ public final class CheckEdgeTest {
         dueCheck("5000 of 5100", over, 5000);
         Desk.due("groups", over.desk.groups(), 1);
         Desk.due("nothing is gone into", over.desk.cut(0), NONE);
+        Desk.due("the next check goes into all papers again", over.desk.check(0, 1), 52);
+        Desk.due("the last paper's way back is cut", over.desk.cut(0), 20);
+        Desk.due("and nothing else", over.desk.cut(1), NONE);
     }
 
     private static void lastAskingInTheNextGroup() {

@@ -36,8 +36,16 @@ final class Desk {
         due(what, got ? 1 : 0, want ? 1 : 0);
     }
 
-    /** Asks for a fault of a text at a place on a new desk. */
+    /** Asks for a fault of a text at a place on a new desk; what stands behind the place changes nothing. */
     static void dueFault(String text, int code, int place) {
+        askFault(text, code, place);
+        if (code >= 1 && code <= 4 && place < text.length()) {
+            askFault(text + "\n$", code, place);
+            askFault(text + "\ngroup all; $", code, place);
+        }
+    }
+
+    private static void askFault(String text, int code, int place) {
         Desk made = new Desk();
         int answer = made.take(text);
         due("take of: " + text, answer == CustomsDesk.NONE ? 1 : 0, code == 0 ? 0 : 1);

@@ -135,6 +135,12 @@ public final class TapeEdgeTest {
         Desk.due("take", last.take("\n".repeat(2999) + "$"), NONE);
         Desk.due("its last byte is one", last.desk.fault(1), 2999);
         Desk.due("1", last.desk.fault(0), 1);
+        for (String token : new String[] {"\"x", "\"", "7", "-7", "-", "abc", "group", "=", "*"}) {
+            Desk ended = new Desk();
+            Desk.due("take", ended.take(" ".repeat(3000 - token.length()) + token), NONE);
+            Desk.due("fault of the last TOKEN " + token, ended.desk.fault(0), token.startsWith("\"") ? 1 : 2);
+            Desk.due("its place", ended.desk.fault(1), token.equals("group") ? 3000 : 3000 - token.length());
+        }
         Desk blanks = new Desk();
         Desk.due("3000 blanks", blanks.take("\n ".repeat(1500)), 0);
     }
