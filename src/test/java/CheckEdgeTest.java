@@ -21,7 +21,9 @@ public final class CheckEdgeTest {
         eightGroupsInARow();
         groupWithAnErrorIsGoneThrough();
         onlyErrorsEndAChain();
+        usesFromTheTopmostKind();
         usesBeforePapers();
+        goThatHolds();
         eachPaperOnceAGroup();
         stepsOfAWay();
         greatestStep();
@@ -343,6 +345,50 @@ public final class CheckEdgeTest {
             {1, 2, 1}};
         for (int k = 0; k < want.length; k++) {
             made.dueFound(k, want[k][0], 1, 0, want[k][1], want[k][2], 0);
+        }
+    }
+
+    private static void dueGone(String uses, boolean goes) {
+        Desk made = Desk.of("chain c : all; mark r = r, go; mark m = go(1); mark n = go; rule o = v; kind k { p : k = " + uses
+            + "; l : list k = " + uses + "; x : int = need?; }");
+        for (int paper = 0; paper < 3; paper++) {
+            made.desk.paper(0);
+        }
+        made.desk.link(0, 0, 1);
+        made.desk.item(0, 1, 2);
+        dueCheck("gone by " + uses, made, goes ? 3 : 1);
+    }
+
+    /** "for each member with a go that holds (in any group)". */
+    private static void goThatHolds() {
+        dueGone("go", true);
+        dueGone("n", true);
+        dueGone("go, go", true);
+        dueGone("go ? # 1 \"x\"", true);
+        dueGone("need", false);
+        dueGone("go(1)", false);
+        dueGone("go(x)", false);
+        dueGone("m", false);
+        dueGone("r", false);
+        dueGone("m, r, go(1), n", true);
+    }
+
+    /** "* uses of the topmost kind first, then downwards; then member by member, uses in order". */
+    private static void usesFromTheTopmostKind() {
+        Desk made = Desk.of("chain c : all; kind a { x : int = need? # 4; * = below(y, y)? # 1; y : int = most(0)? # 5, most(1)? # 6; }"
+            + " kind b of a { z : int = need? # 7; * = below(y, y)? # 2; } kind d of b { * = below(y, y)? # 3; w : int = need? # 8; }");
+        made.desk.paper(2);
+        made.desk.setInt(0, 1, 5, true);
+        dueCheck("check", made, 8);
+        for (int k = 0; k < 8; k++) {
+            Desk.due("payload", made.desk.found(k, 2), k + 1);
+        }
+        made.desk.paper(1);
+        made.desk.setInt(1, 1, 5, true);
+        Desk.due("a paper of the kind above", made.desk.check(1, 0), 6);
+        int[] want = {1, 2, 4, 5, 6, 7};
+        for (int k = 0; k < 6; k++) {
+            Desk.due("payload", made.desk.found(k, 2), want[k]);
         }
     }
 

@@ -256,6 +256,12 @@ public final class ProposalEdgeTest {
         dueSet(made, 1, "1010");
         dueSet(made, 2, "1010");
         dueSet(made, 3, "111");
+        Desk other = Desk.of("chain c : all; kind o { } kind p { } kind k { l : list r; z : int; * = total(l, b, z); } kind q {"
+            + INTS + "} kind r {" + INTS + "}");
+        other.desk.paper(3);
+        other.desk.paper(4);
+        dueSet(other, 0, "111");
+        dueSet(other, 1, "101");
     }
 
     private static void readOnAnotherKind() {

@@ -4,6 +4,7 @@ public final class TapeEdgeTest {
     private static final int BLANKS = 0x20202020;
 
     public static void main(String[] args) {
+        Desk.due("NONE", NONE, -1);
         highestByteFirst();
         fullBySteps();
         refusedFeedPutsNothing();

@@ -29,6 +29,7 @@ public final class TextEdgeTest {
         membersAtMost();
         partsAtMost();
         endOfTheText();
+        notThere();
         firstByItsPlace();
         leastAtOnePlace();
         fiveOnlyWithoutOthers();
@@ -246,6 +247,12 @@ public final class TextEdgeTest {
         Desk.dueFault("kind a of all { }", 5, 10);
         Desk.dueFault("mark m = go; kind a of m { }", 5, 23);
         Desk.dueFault("kind a of need { }", 5, 10);
+        // What has the NAME is no kind, though its number is that of a kind told ahead; its members are no others' then.
+        for (String part : new String[] {"chain x:all;", "rule x=v;", "mark x=go;"}) {
+            String ahead = "kind k{a:int;}kind l{a:int;}" + part;
+            Desk.dueFault(ahead + "kind m of x{a:int;}", 5, ahead.length() + 10);
+            Desk.dueFault(ahead + "kind m of all{a:int;}", 5, ahead.length() + 10);
+        }
         StringBuilder line = new StringBuilder("kind k0{}");
         for (int i = 1; i < 16; i++) {
             line.append("kind k").append(i).append(" of k").append(i - 1).append("{}");
@@ -397,6 +404,8 @@ public final class TextEdgeTest {
         Desk.dueFault("rule r starts 1" + " 1 = =".repeat(19) + "~~=v;", 2, 130);
         Desk.dueFault("rule r = v" + "~".repeat(39) + " 1;", 2, 50);
         Desk.dueFault("rule r = v" + "~".repeat(39) + " ==;", 2, 50);
+        Desk.dueFault("rule r starts 1" + "~".repeat(39) + "== = v;", 2, 54);
+        Desk.dueFault("rule r starts 1" + "~".repeat(39) + "1 = v;", 2, 54);
     }
 
     /** "arg = NUMBER or NAME, 4 at most". */
@@ -472,6 +481,45 @@ public final class TextEdgeTest {
             Desk.dueFault(end + " \n ", 2, end.length() + 3);
             Desk.dueFault(end + " $", 1, end.length() + 1);
         }
+    }
+
+    /** "2 one that can't stand there": what must stand behind a sign or a word. */
+    private static void notThere() {
+        Desk.dueFault("mark m = go @;", 2, 13);
+        Desk.dueFault("mark m = go @, go;", 2, 13);
+        Desk.dueFault("mark m = go @ #1;", 2, 14);
+        Desk.dueFault("mark m = go #;", 2, 13);
+        Desk.dueFault("mark m = go #, go;", 2, 13);
+        Desk.dueFault("mark m = go # \"x\";", 2, 14);
+        Desk.dueFault("mark m = go(1; mark n = go;", 2, 13);
+        Desk.dueFault("mark m = go(1, go;", 2, 17);
+        Desk.dueFault("mark m = go 1;", 2, 12);
+        Desk.dueFault("mark m = go ) ;", 2, 12);
+        Desk.dueFault("mark m = , go;", 2, 9);
+        Desk.dueFault("mark m = go go;", 2, 12);
+        Desk.dueFault("mark m = go \"x\" \"y\";", 2, 16);
+        Desk.dueFault("mark m = go ! !;", 2, 14);
+        Desk.dueFault("mark m = go @ all ?;", 2, 18);
+        Desk.dueFault("mark m : go;", 2, 7);
+        Desk.dueFault("group ; group g;", 2, 6);
+        Desk.dueFault("group g : all : all;", 2, 14);
+        Desk.dueFault("group g = all;", 2, 8);
+        Desk.dueFault("chain c = all;", 2, 8);
+        Desk.dueFault("kind k kind k { }", 2, 7);
+        Desk.dueFault("kind k of { }", 2, 10);
+        Desk.dueFault("kind k of k of k { }", 2, 12);
+        Desk.dueFault("kind k ( )", 2, 7);
+        Desk.dueFault("kind k { ; }", 2, 9);
+        Desk.dueFault("kind k { a : int; } ;", 2, 20);
+        Desk.dueFault("kind k { a = go; }", 2, 11);
+        Desk.dueFault("kind k { a : int = go }", 2, 22);
+        Desk.dueFault("kind k { * = go }", 2, 16);
+        Desk.dueFault("kind k { a : list list k; }", 2, 18);
+        Desk.dueFault("rule r starts starts = v;", 2, 14);
+        Desk.dueFault("rule r : v;", 2, 7);
+        Desk.dueFault("rule r v;", 2, 7);
+        Desk.dueFault("rule r = v, v;", 2, 10);
+        Desk.dueFault("rule = v;", 2, 5);
     }
 
     /** "FAULTS of a TEXT, the first by its place". */
