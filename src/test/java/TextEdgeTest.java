@@ -404,6 +404,8 @@ public final class TextEdgeTest {
         Desk.dueFault("rule r starts 1" + " 1 = =".repeat(19) + "~~=v;", 2, 130);
         Desk.dueFault("rule r = v" + "~".repeat(39) + " 1;", 2, 50);
         Desk.dueFault("rule r = v" + "~".repeat(39) + " ==;", 2, 50);
+        // A single = there is too many already, whatever stands behind it.
+        Desk.dueFault("rule r = v" + "~".repeat(39) + " = ;", 2, 50);
         Desk.dueFault("rule r starts 1" + "~".repeat(39) + "== = v;", 2, 54);
         Desk.dueFault("rule r starts 1" + "~".repeat(39) + "1 = v;", 2, 54);
     }
